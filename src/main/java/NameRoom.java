@@ -95,7 +95,7 @@ public final class NameRoom {
         if (answer != DONE) {
             return answer;
         }
-        writeTold(written);
+        written.become(textOf(told()));
         return written.length;
     }
 
@@ -276,9 +276,8 @@ public final class NameRoom {
         return shelf.find(stem, pools.owner(stem, pool));
     }
 
-    private void writeTold(Row row) {
-        Entry told = told();
-        row.become(told == null ? full : told.held);
+    private Row textOf(Entry told) {
+        return told == null ? full : told.held;
     }
 
     /** Gives full the bytes of the source from start up to stop. */
@@ -338,7 +337,7 @@ public final class NameRoom {
                 if (!workOut(token)) {
                     return LONG;
                 }
-                writeTold(pattern);
+                pattern.become(textOf(told()));
                 cutter.cutAtPattern(pattern);
                 return DONE;
             case PLACE:
@@ -459,10 +458,6 @@ public final class NameRoom {
             return true;
         }
 
-        boolean same(Row other) {
-            return length == other.length && beginsWith(other);
-        }
-
         boolean standsAt(int start, Row part) {
             for (int i = 0; i < part.length; i++) {
                 if (at(start + i) != part.at(i)) {
@@ -474,8 +469,8 @@ public final class NameRoom {
 
         /** The first period from start on ahead of stop; stop if there is none. */
         int dotFrom(int start, int stop) {
-            for (int i = Math.max(start, 0); i < stop && i < bytes.length; i++) {
-                if (bytes[i] == '.') {
+            for (int i = start; i < stop && i < bytes.length; i++) {
+                if (i >= 0 && bytes[i] == '.') {
                     return i;
                 }
             }
@@ -528,7 +523,8 @@ public final class NameRoom {
         Entry find(Row title, int pool) {
             for (int i = 0; i < size && i < entries.length; i++) {
                 Entry entry = entries[i];
-                if (entry != null && entry.pool == pool && entry.title.same(title)) {
+                if (entry != null && entry.pool == pool && entry.title.length == title.length
+                        && entry.title.beginsWith(title)) {
                     return entry;
                 }
             }
@@ -597,23 +593,35 @@ public final class NameRoom {
         }
     }
 
+    /** A full name that a pool sees of the one around it. */
+    private static final class Sight {
+        final Row title;
+        int pool;
+        boolean withTails;
+
+        Sight() {
+            title = new Row(VALUE_MOST);
+            pool = 0;
+            withTails = false;
+        }
+
+        boolean holds(Row other) {
+            return (withTails || other.length == title.length) && other.beginsWith(title);
+        }
+    }
+
     /** The pools that lie in one another, and what each sees of the one around it. */
     private static final class Pools {
-        // one stack for all pools, the innermost one's names on top: a pool goes before those around it
-        final Row[] seen;
-        final boolean[] seenIsStem;
-        final int[] seer;
+        // one stack for all pools, since the innermost pool always goes first
+        final Sight[] sights;
         int size;
         int depth;
 
         Pools() {
-            int most = POOLS_MOST * SEEN_MOST;
-            seen = new Row[most];
-            for (int i = 0; i < seen.length; i++) {
-                seen[i] = new Row(VALUE_MOST);
+            sights = new Sight[(POOLS_MOST - 1) * SEEN_MOST];
+            for (int i = 0; i < sights.length; i++) {
+                sights[i] = new Sight();
             }
-            seenIsStem = new boolean[most];
-            seer = new int[most];
             size = 0;
             depth = 1;
         }
@@ -627,19 +635,16 @@ public final class NameRoom {
         }
 
         void leave() {
+            size -= seenByInnermost();
             depth--;
-            for (int i = size - 1; i >= 0 && i < seer.length && seer[i] >= depth; i--) {
-                size = i;
-            }
         }
 
-        /** The pool whose own the name is, as a pool sees it. */
+        /** The pool whose own the name is, as the pool sees it. */
         int owner(Row title, int pool) {
             int owner = pool;
-            for (int i = Math.min(size, seen.length) - 1; i >= 0; i--) {
-                Row row = seen[i];
-                if (seer[i] == owner && row != null && title.beginsWith(row)
-                        && (seenIsStem[i] || title.length == row.length)) {
+            for (int i = Math.min(size, sights.length) - 1; i >= 0; i--) {
+                Sight sight = sights[i];
+                if (sight != null && sight.pool == owner && sight.holds(title)) {
                     owner--;
                 }
             }
@@ -647,28 +652,35 @@ public final class NameRoom {
         }
 
         void see(Row title) {
-            for (int i = 0; i < size && i < seen.length; i++) {
-                Row row = seen[i];
-                if (seer[i] == innermost() && row != null && row.same(title)) {
-                    return;
-                }
-            }
-            if (size < 0 || size >= seen.length) {
+            if (sees(title) || size < 0 || size >= sights.length) {
                 return;
             }
-            Row top = seen[size];
-            if (top != null) {
-                top.become(title);
-                seenIsStem[size] = title.isStem();
-                seer[size] = innermost();
+            Sight sight = sights[size];
+            if (sight != null) {
+                sight.title.become(title);
+                sight.pool = innermost();
+                sight.withTails = title.isStem();
                 size++;
             }
         }
 
+        /** Whether the innermost pool was told this very name. */
+        private boolean sees(Row title) {
+            for (int i = 0; i < size && i < sights.length; i++) {
+                Sight sight = sights[i];
+                if (sight != null && sight.pool == innermost() && sight.title.length == title.length
+                        && sight.title.beginsWith(title)) {
+                    return true;
+                }
+            }
+            return false;
+        }
+
         int seenByInnermost() {
             int found = 0;
-            for (int i = 0; i < size && i < seer.length; i++) {
-                if (seer[i] == innermost()) {
+            for (int i = 0; i < size && i < sights.length; i++) {
+                Sight sight = sights[i];
+                if (sight != null && sight.pool == innermost()) {
                     found++;
                 }
             }
