@@ -44,13 +44,13 @@ public final class NameRoom {
     private final Cutter cutter;
 
     public NameRoom() {
-        tape = new Row(TAPE_MOST);
+        reader = new Reader();
+        tape = reader.text;
         written = new Row(VALUE_MOST);
         full = new Row(VALUE_MOST);
         stem = new Row(VALUE_MOST);
         tail = new Row(SYMBOL_MOST);
         pattern = new Row(VALUE_MOST);
-        reader = new Reader(tape);
         shelf = new Shelf();
         pools = new Pools();
         cutter = new Cutter();
@@ -699,8 +699,8 @@ public final class NameRoom {
         int at;
         int answer;
 
-        Reader(Row tape) {
-            text = tape;
+        Reader() {
+            text = new Row(TAPE_MOST);
             kinds = new int[TAPE_MOST];
             starts = new int[TAPE_MOST];
             stops = new int[TAPE_MOST];

@@ -20,6 +20,9 @@ public final class PoolsTest {
         c.name(0, 0, "X").name(1, 1, "X").value(0, "outer").value(1, "inner");
         c.drop("x", 1).known("x", 0).set("x=again", 2).close(1).count(0, 1).get("x", "outer").close(NameRoom.STATE);
         c.open("", 2).known("x", 0);
+
+        Check alone = new Check("closes alone");
+        alone.open("", 2).set("x=1", 1).set("s.=1", 2).drop("s.1", 3).close(1).count(0, 0).known("x", 0).known("s.1", 0);
     }
 
     private static void seesNames() {
