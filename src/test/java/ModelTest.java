@@ -2,7 +2,6 @@ import java.util.Random;
 
 /** Many runs of calls, the same ones every time, on a room and on the model beside it. */
 public final class ModelTest {
-    private static final int CALLS_MOST = 512;
     private static final String[] SYMBOLS = {"a", "b", "i", "j", "e", "s.", "s.1", "s.2", "s.i", "S.I", "s.j", "s.i.j",
         "s.e", "s.", "t.", "t.i", "t.e", "t.1.e", "t..", "s.v", "t.v.i", "v", "Q!", "a?_", "x.y.z", "s.1.", "long"};
     private static final String[] VALUES = {"", "1", "2", "i", "I", "J", ".", "1.2", " ", "a b", "b,c", ",", "one two  three",
@@ -15,7 +14,6 @@ public final class ModelTest {
     private final Model model = new Model();
     private final boolean wide;
     private final boolean lengthy;
-    private int calls = 0;
 
     private ModelTest(int run) {
         // seeds that lie close together would begin alike
@@ -29,7 +27,7 @@ public final class ModelTest {
         int runs = args.length > 0 ? Integer.parseInt(args[0]) : 3000;
         for (int run = 0; run < runs; run++) {
             ModelTest test = new ModelTest(run);
-            while (test.calls < CALLS_MOST - 250) {
+            while (test.check.calls() < Check.CALLS_MOST - 250) {
                 test.step();
             }
             test.compareAll();
@@ -102,13 +100,11 @@ public final class ModelTest {
     private void tape(String text) {
         String fits = text.length() > 600 ? text.substring(0, 600) : text;
         check.tape(fits);
-        calls += 1 + (fits.length() + 19) / 20;
         model.tape = fits;
     }
 
     private void due(String call, int got, int want) {
-        calls++;
-        check.due(calls + " " + call, got, want);
+        check.due(check.calls() + " " + call, got, want);
     }
 
     private void step() {
@@ -116,69 +112,69 @@ public final class ModelTest {
             case 0: case 1: case 2: case 3: case 4: {
                 String text = spoilt((lengthy && random.nextInt(3) == 0 ? "v" : symbol()) + "=" + someValue());
                 tape(text);
-                due("set " + text, check.room.set(), model.set());
+                due("set " + text, check.set(), model.set());
                 break;
             }
             case 5: case 6: {
                 String text = spoilt(symbols(3));
                 tape(text);
-                due("drop " + text, check.room.drop(), model.drop());
+                due("drop " + text, check.drop(), model.drop());
                 break;
             }
             case 7: case 8: case 9: {
                 String text = spoilt(template());
                 tape(text);
-                due("parse " + text, check.room.parse(), model.parse());
+                due("parse " + text, check.parse(), model.parse());
                 break;
             }
             case 10: {
                 String text = spoilt(symbol());
                 tape(text);
-                due("get " + text, check.room.get(), model.get());
+                due("get " + text, check.get(), model.get());
                 compareOut();
                 break;
             }
             case 11: {
                 String text = spoilt(symbol());
                 tape(text);
-                due("known " + text, check.room.known(), model.known());
+                due("known " + text, check.known(), model.known());
                 break;
             }
             case 12: {
                 String text = spoilt(symbols(random.nextInt(6) == 0 ? 15 : 3));
                 tape(text);
-                due("open " + text, check.room.open(), model.open());
+                due("open " + text, check.open(), model.open());
                 break;
             }
             case 13:
                 if (random.nextBoolean()) {
-                    due("close", check.room.close(), model.close());
+                    due("close", check.close(), model.close());
                 }
                 break;
             default: {
                 String text = someValue() + someValue();
                 boolean capitals = random.nextBoolean();
                 tape(text);
-                due("subject " + text, check.room.subject(capitals), model.subject(capitals));
+                due("subject " + text, check.subject(capitals), model.subject(capitals));
             }
         }
         int what = random.nextInt(9) - 1;
-        due("count " + what, check.room.count(what), model.count(what));
+        due("count " + what, check.count(what), model.count(what));
     }
 
     private void compareOut() {
         int i = random.nextInt(model.out.length() + 1);
-        due("out " + i, check.room.out(i), i < model.out.length() ? model.out.charAt(i) : NameRoom.NONE);
+        due("out " + i, check.out(i), i < model.out.length() ? model.out.charAt(i) : NameRoom.NONE);
     }
 
     private void compareAll() {
         for (int what = 0; what <= 6; what++) {
-            due("count " + what, check.room.count(what), model.count(what));
+            due("count " + what, check.count(what), model.count(what));
         }
-        for (int i = 0; i <= model.named.size() && calls < CALLS_MOST - 4; i++) {
-            due("name " + i, check.room.name(i), model.name(i));
+        for (int i = 0; i <= model.named.size() && check.calls() < Check.CALLS_MOST - 4; i++) {
+            due("name " + i, check.name(i), model.name(i));
             compareOut();
-            due("value " + i, check.room.value(i), model.value(i));
+            due("value " + i, check.value(i), model.value(i));
             compareOut();
         }
     }

@@ -69,7 +69,7 @@ public final class NamesTest {
         c.getFails("a.v.", NameRoom.LONG).getFails("a.v.1", NameRoom.LONG).getFails("a.v.v.v.v.v.v", NameRoom.LONG);
         c.getFails("a.1.v", NameRoom.LONG).getFails("a..v", NameRoom.LONG);
         c.set("a.v=edge", 2).get("a.v", "edge").name(1, 0, "A." + "v".repeat(198));
-        c.due("set wrong before long", c.tape("ab.v=" + "x".repeat(201)).room.set(), -1205);
+        c.due("set wrong before long", c.tape("ab.v=" + "x".repeat(201)).set(), -1205);
         c.set("x=1", 3).set("y=1", 4);
         c.drop("x ab.v y", NameRoom.LONG).known("x", 0).known("y", 2).count(0, 3);
         c.open("ab.v", 2).close(1).open("v ab.v", NameRoom.LONG).count(1, 1).count(2, 0);
@@ -90,7 +90,7 @@ public final class NamesTest {
         c.set("s.1=one", 1).drop("s.1", 0).known("s.1", 0).drop("s.1", 0).drop("x", 0).drop("s.", 0);
         c.set("s.=all", 1).set("s.1=one", 2).set("x=1", 3);
         c.drop("s.1", 3).known("s.1", 0).get("s.1", "S.1").name(1, 0, "S.1");
-        c.due("value", c.room.value(1), NameRoom.STATE);
+        c.due("value", c.value(1), NameRoom.STATE);
         c.due("out stays", c.out(), "S.1");
         c.drop("s.1", 3).set("s.1=again", 3).name(1, 0, "S.1").value(1, "again").known("s.1", 2);
         c.drop("s.2", 4).known("s.2", 0).known("s.3", 1).name(3, 0, "S.2");
@@ -119,21 +119,21 @@ public final class NamesTest {
         c.set("a=1", 1).set("s.=2", 2).set("b=3", 3).set("s.1=4", 4).set("c=5", 5).set("a=6", 5).set("s.=7", 4);
         c.name(0, 0, "A").name(1, 0, "S.").name(2, 0, "B").name(3, 0, "C").value(0, "6").value(1, "7").value(3, "5");
         c.drop("a", 3).set("a=8", 4).name(0, 0, "S.").name(3, 0, "A");
-        c.due("name 4", c.room.name(4), NameRoom.NONE);
-        c.due("name -1", c.room.name(-1), NameRoom.NONE);
-        c.due("name least", c.room.name(Integer.MIN_VALUE), NameRoom.NONE);
-        c.due("name most", c.room.name(Integer.MAX_VALUE), NameRoom.NONE);
-        c.due("value 4", c.room.value(4), NameRoom.NONE);
-        c.due("value -1", c.room.value(-1), NameRoom.NONE);
-        c.due("value 100", c.room.value(100), NameRoom.NONE);
-        c.due("value most", c.room.value(Integer.MAX_VALUE), NameRoom.NONE);
+        c.due("name 4", c.name(4), NameRoom.NONE);
+        c.due("name -1", c.name(-1), NameRoom.NONE);
+        c.due("name least", c.name(Integer.MIN_VALUE), NameRoom.NONE);
+        c.due("name most", c.name(Integer.MAX_VALUE), NameRoom.NONE);
+        c.due("value 4", c.value(4), NameRoom.NONE);
+        c.due("value -1", c.value(-1), NameRoom.NONE);
+        c.due("value 100", c.value(100), NameRoom.NONE);
+        c.due("value most", c.value(Integer.MAX_VALUE), NameRoom.NONE);
     }
 
     private static void full() {
         Check c = new Check("full");
         c.set("t.=t", 1);
         for (int i = 1; i < 100; i++) {
-            c.due("set", c.tape("s." + i + "=v").room.set(), i + 1);
+            c.due("set", c.tape("s." + i + "=v").set(), i + 1);
         }
         c.set("x=1", NameRoom.FULL).set("t.1=1", NameRoom.FULL).drop("s.99 t.1 s.98", 99);
         c.set("s.99=v", 100).drop("s.1 t.1 t.2 t.3 s.97", NameRoom.FULL).known("s.97", 2).count(0, 100);

@@ -51,7 +51,7 @@ public final class PoolsTest {
         // the inner stem takes away in its own pool alone
         c.set("s.2=two", 4).set("s.=again", 3).get("s.1", "own").get("s.2", "again");
         c.drop("s.1", 3).known("s.1", 0);
-        c.due("value", c.room.value(2), NameRoom.STATE);
+        c.due("value", c.value(2), NameRoom.STATE);
         c.drop("s.", 2).known("s.1", 0).close(1).known("s.1", 0).known("s.2", 1).drop("s.", 0);
         c.open("s.1", 2).set("s.=inner", 1).set("s.1=x", 2).drop("s.1", 1).known("s.1", 0).known("s.2", 1);
     }

@@ -19,9 +19,9 @@ public final class TemplateTest {
         Check c = new Check("subjects");
         c.parse("a", 1).known("a", 2).get("a", "");
         c.subject("aZ{`\u00E4 9").count(3, 7).parse("a", 1).get("a", "aZ{`\u00E4 9");
-        c.due("capitals", c.tape("azAZ{`\u00E4 9").room.subject(true), 9);
+        c.due("capitals", c.tape("azAZ{`\u00E4 9").subject(true), 9);
         c.parse("a", 1).get("a", "AZAZ{`\u00E4 9");
-        c.due("too long", c.tape("x".repeat(201)).room.subject(false), NameRoom.FULL);
+        c.due("too long", c.tape("x".repeat(201)).subject(false), NameRoom.FULL);
         c.count(3, 9).parse("a", 1).get("a", "AZAZ{`\u00E4 9");
         c.subject("y".repeat(200)).parse("a", 1).get("a", "y".repeat(200)).subject("").count(3, 0);
         c.subject("abc").parse("2", 0).subject("xyz").places(2, 2);
@@ -103,7 +103,7 @@ public final class TemplateTest {
 
         Check f = new Check("stops full");
         for (int i = 1; i < 99; i++) {
-            f.due("set", f.tape("t." + i + "=v").room.set(), i);
+            f.due("set", f.tape("t." + i + "=v").set(), i);
         }
         f.subject("a b c d,e").parse("a t.1 b c ',' d", NameRoom.FULL).count(0, 100).places(9, 8);
         f.get("t.1", "b").get("b", "c").known("c", 0).known("d", 0);
