@@ -95,6 +95,9 @@ public final class FaceTest {
             if (lines[i].matches(" {4}(?! )(?!.*\\bclass\\b).*\\{| {8}(?! ).*\\) \\{")) {
                 start = i;
             }
+            if (lines[i].matches(".*\\bnew\\b.*;") && !lines[start].matches(" +(public )?[A-Z]\\w*\\(.*")) {
+                CHECK.due("made outside of constructors", lines[i].strip(), "");
+            }
             if (lines[i].matches(" {4}(    )?\\}") && i - start > METHOD_LINES) {
                 CHECK.due("lines of " + lines[start].strip(), i - start, METHOD_LINES);
             }
